@@ -50,7 +50,6 @@ public final class PeaSpoons {
   private final Child kept;
   private boolean isKept;
   private final Tape tape;
-  private final Reader reader;
   private final Sheet[] sheets;
   private final int[] findings;
 
@@ -60,7 +59,6 @@ public final class PeaSpoons {
     kept = new Child();
     isKept = false;
     tape = new Tape();
-    reader = new Reader(tape, trial);
     sheets = new Sheet[SHEETS];
     for (int s = 0; s < SHEETS; s++) {
       sheets[s] = new Sheet();
@@ -78,10 +76,6 @@ public final class PeaSpoons {
 
   private static boolean within(int v, int low, int top) {
     return v >= low && v <= top;
-  }
-
-  private static int held(int v, int low, int top) {
-    return Math.max(low, Math.min(top, v));
   }
 
   private static boolean isFood(int v) {
@@ -551,12 +545,13 @@ public final class PeaSpoons {
 
   public int text() {
     trial.become(child);
-    boolean isWhole = reader.readText();
-    if (isWhole) {
-      child.become(trial);
-    }
+    int items = Text.read(tape, trial);
     tape.size = 0;
-    return isWhole ? reader.items : -1 - tape.start;
+    if (items < 0) {
+      return -1 - tape.place();
+    }
+    child.become(trial);
+    return items;
   }
 
   // ---- spots, sheets
@@ -922,7 +917,7 @@ public final class PeaSpoons {
     }
 
     private void moveLike(int food, int by) {
-      like[food] = held(like[food] + by, 0, TOP_LIKE);
+      like[food] = Math.max(0, Math.min(TOP_LIKE, like[food] + by));
     }
 
     private int serveTaste(int taste) {
@@ -941,7 +936,7 @@ public final class PeaSpoons {
     int serveMeal() {
       int eaten = plan.size > 0 ? serveTaste(meal % plan.size) : 0;
       hunger = Math.min(TOP_HUNGER, Math.max(0, hunger - 3 * eaten) + 12);
-      weight = held(weight + eaten - 4, 0, TOP_WEIGHT);
+      weight = Math.max(0, Math.min(TOP_WEIGHT, weight + eaten - 4));
       book[meal % BOOK_MEALS] = eaten;
       meal++;
       return eaten;
@@ -994,28 +989,33 @@ public final class PeaSpoons {
     }
   }
 
-  /** The bytes of a text, and the token that stands at the reading place. */
+  /** The bytes of a text, and the tokens that they are cut into, with the place of the reading one. */
   private static final class Tape {
-    static final int END = 0;
-    static final int WORD = 1;
-    static final int NUMBER = 2;
-    static final int SIGN = 3;
-    static final int OTHER = 4;
+    private static final int BLANK = 0;
+    private static final int WORD = 1;
+    private static final int NUMBER = 2;
+    private static final int SIGN = 3;
+    private static final int OTHER = 4;
+    private static final int END = 5;
 
     final int[] bytes;
     int size;
-    int token;
-    int start;
-    int end;
-    int value;
+    private final int[] kinds;
+    private final int[] starts;
+    private final int[] lengths;
+    private final int[] values;
+    private int tokens;
+    private int at;
 
     Tape() {
       bytes = new int[TAPE_BYTES];
       size = 0;
-      token = END;
-      start = 0;
-      end = 0;
-      value = 0;
+      kinds = new int[TAPE_BYTES + 1];
+      starts = new int[TAPE_BYTES + 1];
+      lengths = new int[TAPE_BYTES + 1];
+      values = new int[TAPE_BYTES + 1];
+      tokens = 0;
+      at = 0;
     }
 
     void add(int b) {
@@ -1025,129 +1025,165 @@ public final class PeaSpoons {
       }
     }
 
-    void toFirst() {
-      end = 0;
-      step();
-    }
-
-    void step() {
-      start = end;
-      while (start < size && bytes[start] == ' ') {
-        start++;
+    /** The last token is an end behind all bytes. */
+    void cut() {
+      tokens = 0;
+      at = 0;
+      int last = BLANK;
+      for (int i = 0; i < size; i++) {
+        int kind = kindOf(bytes[i]);
+        boolean goesOn = kind == last && (kind == WORD || kind == NUMBER);
+        if (!goesOn && kind != BLANK) {
+          begin(kind, i);
+        }
+        if (kind != BLANK) {
+          lengthen(i);
+        }
+        last = kind;
       }
-      end = start;
-      if (start >= size) {
-        token = END;
-      } else if (isLetter(start)) {
-        takeWord();
-      } else if (isDigit(start)) {
-        takeNumber();
-      } else {
-        token = bytes[start] == ';' ? SIGN : OTHER;
-        end = start + 1;
+      begin(END, size);
+    }
+
+    private static int kindOf(int b) {
+      if (within(b, 'a', 'z')) {
+        return WORD;
       }
+      if (within(b, '0', '9')) {
+        return NUMBER;
+      }
+      if (b == ';') {
+        return SIGN;
+      }
+      return b == ' ' ? BLANK : OTHER;
     }
 
-    private boolean isLetter(int i) {
-      return i < size && within(bytes[i], 'a', 'z');
-    }
-
-    private boolean isDigit(int i) {
-      return i < size && within(bytes[i], '0', '9');
-    }
-
-    private void takeWord() {
-      token = WORD;
-      while (isLetter(end)) {
-        end++;
+    private void begin(int kind, int start) {
+      if (tokens <= TAPE_BYTES) {
+        kinds[tokens] = kind;
+        starts[tokens] = start;
+        lengths[tokens] = 0;
+        values[tokens] = 0;
+        tokens++;
       }
     }
 
     /** A value above the greatest number stays just above it, however long it is. */
-    private void takeNumber() {
-      token = NUMBER;
-      value = 0;
-      while (isDigit(end)) {
-        value = Math.min(TOP_NUMBER + 1, value * 10 + bytes[end] - '0');
-        end++;
+    private void lengthen(int i) {
+      int token = tokens - 1;
+      if (token >= 0) {
+        lengths[token]++;
+        if (kinds[token] == NUMBER) {
+          values[token] = Math.min(TOP_NUMBER + 1, values[token] * 10 + bytes[i] - '0');
+        }
       }
     }
 
-    boolean isWord(String word) {
-      if (token != WORD || end - start != word.length()) {
+    /** Of the token that is read: its first byte's place. */
+    int place() {
+      return starts[at];
+    }
+
+    boolean isAtEnd() {
+      return kinds[at] == END;
+    }
+
+    boolean isAtNumber() {
+      return kinds[at] == NUMBER;
+    }
+
+    boolean isAtWord(String word) {
+      if (kinds[at] != WORD || lengths[at] != word.length()) {
         return false;
       }
       for (int i = 0; i < word.length(); i++) {
-        if (bytes[start + i] != word.charAt(i)) {
+        if (bytes[starts[at] + i] != word.charAt(i)) {
           return false;
         }
       }
       return true;
     }
+
+    /** Nothing stands behind the end, so the reading stays there. */
+    void step() {
+      if (kinds[at] != END) {
+        at++;
+      }
+    }
+
+    boolean takesSign() {
+      boolean is = kinds[at] == SIGN;
+      if (is) {
+        step();
+      }
+      return is;
+    }
+
+    /** The number that stands here, which is passed; -1 if none within the bounds does. */
+    int takenNumber(int low, int top) {
+      if (kinds[at] != NUMBER || !within(values[at], low, top)) {
+        return -1;
+      }
+      int v = values[at];
+      step();
+      return v;
+    }
+
+    int takenNumberBehindWord(int low, int top) {
+      step();
+      return takenNumber(low, top);
+    }
   }
 
-  /** Reads a text onto a child; where it answers false, the tape stands at the fault. */
-  private static final class Reader {
-    private final Tape tape;
-    private final Child child;
-    int items;
-
-    Reader(Tape tape, Child child) {
-      this.tape = tape;
-      this.child = child;
-      items = 0;
-    }
-
-    boolean readText() {
-      items = 0;
-      tape.toFirst();
-      while (items <= TAPE_BYTES) {
-        if (!readItem()) {
-          return false;
+  /** Reads a tape onto a child; where it fails, the tape is left at the fault. */
+  private static final class Text {
+    /** How many items; -1 with a fault. */
+    static int read(Tape tape, Child child) {
+      tape.cut();
+      for (int items = 1; items <= TAPE_BYTES; items++) {
+        if (!readItem(tape, child)) {
+          return -1;
         }
-        items++;
-        if (tape.token != Tape.SIGN) {
-          return tape.token == Tape.END;
+        if (!tape.takesSign()) {
+          return tape.isAtEnd() ? items : -1;
         }
-        tape.step();
       }
-      return false;
+      return -1;
     }
 
-    private boolean readItem() {
-      int part = partTold();
+    private static boolean readItem(Tape tape, Child child) {
+      int part = partTold(tape);
       if (part >= 0) {
-        return readPart(part);
+        return readPart(tape, child, part);
       }
-      int kind = kindTold();
+      int kind = kindTold(tape);
       if (kind >= 0) {
-        return readTaste(kind);
+        return readTaste(tape, child, kind);
       }
-      if (tape.isWord("food")) {
-        return readFood();
+      if (tape.isAtWord("food")) {
+        return readFood(tape, child);
       }
-      if (tape.isWord("pudding")) {
-        return readPudding();
+      if (tape.isAtWord("pudding")) {
+        return readPudding(tape, child);
       }
-      return tape.isWord("friend") && readFriend();
+      return tape.isAtWord("friend") && readFriend(tape, child);
     }
 
-    private int partTold() {
-      if (tape.isWord("bent")) {
+    private static int partTold(Tape tape) {
+      if (tape.isAtWord("bent")) {
         return BENT;
       }
-      if (tape.isWord("hunger")) {
+      if (tape.isAtWord("hunger")) {
         return HUNGER;
       }
-      if (tape.isWord("weight")) {
+      if (tape.isAtWord("weight")) {
         return WEIGHT;
       }
-      return tape.isWord("line") ? LINE : -1;
+      return tape.isAtWord("line") ? LINE : -1;
     }
 
-    private int kindTold() {
+    private static int kindTold(Tape tape) {
       for (int kind = 0; kind < KINDS; kind++) {
-        if (tape.isWord(kindWord(kind))) {
+        if (tape.isAtWord(kindWord(kind))) {
           return kind;
         }
       }
@@ -1166,23 +1202,8 @@ public final class PeaSpoons {
       }
     }
 
-    /** The number that stands here, which is passed; -1 if none within the bounds does. */
-    private int number(int low, int top) {
-      if (tape.token != Tape.NUMBER || !within(tape.value, low, top)) {
-        return -1;
-      }
-      int v = tape.value;
-      tape.step();
-      return v;
-    }
-
-    private int numberBehindWord(int low, int top) {
-      tape.step();
-      return number(low, top);
-    }
-
-    private boolean readPart(int part) {
-      int v = numberBehindWord(partLow(part), partTop(part));
+    private static boolean readPart(Tape tape, Child child, int part) {
+      int v = tape.takenNumberBehindWord(partLow(part), partTop(part));
       if (v < 0) {
         return false;
       }
@@ -1190,17 +1211,17 @@ public final class PeaSpoons {
       return true;
     }
 
-    private boolean readTaste(int kind) {
+    private static boolean readTaste(Tape tape, Child child, int kind) {
       if (child.plan.isFull()) {
         return false;
       }
-      int food = numberBehindWord(0, FOODS - 1);
+      int food = tape.takenNumberBehindWord(0, FOODS - 1);
       if (food < 0) {
         return false;
       }
       int put = 5;
-      if (tape.isWord("put")) {
-        put = numberBehindWord(1, TOP_PUT);
+      if (tape.isAtWord("put")) {
+        put = tape.takenNumberBehindWord(1, TOP_PUT);
         if (put < 0) {
           return false;
         }
@@ -1209,29 +1230,30 @@ public final class PeaSpoons {
       return true;
     }
 
-    private boolean readFood() {
-      int food = numberBehindWord(0, FOODS - 1);
+    private static boolean readFood(Tape tape, Child child) {
+      int food = tape.takenNumberBehindWord(0, FOODS - 1);
       if (food < 0) {
         return false;
       }
-      return readTrait("like", child.like, food, TOP_LIKE)
-          && readTrait("bitter", child.bitter, food, TOP_BITTER);
-    }
-
-    private boolean readTrait(String word, int[] row, int food, int top) {
-      if (!tape.isWord(word)) {
-        return true;
+      if (tape.isAtWord("like")) {
+        int like = tape.takenNumberBehindWord(0, TOP_LIKE);
+        if (like < 0) {
+          return false;
+        }
+        child.like[food] = like;
       }
-      int v = numberBehindWord(0, top);
-      if (v < 0) {
-        return false;
+      if (tape.isAtWord("bitter")) {
+        int bitter = tape.takenNumberBehindWord(0, TOP_BITTER);
+        if (bitter < 0) {
+          return false;
+        }
+        child.bitter[food] = bitter;
       }
-      row[food] = v;
       return true;
     }
 
-    private boolean readPudding() {
-      int food = numberBehindWord(0, FOODS - 1);
+    private static boolean readPudding(Tape tape, Child child) {
+      int food = tape.takenNumberBehindWord(0, FOODS - 1);
       if (food < 0) {
         return false;
       }
@@ -1239,16 +1261,16 @@ public final class PeaSpoons {
       return true;
     }
 
-    private boolean readFriend() {
-      int food = numberBehindWord(0, FOODS - 1);
+    private static boolean readFriend(Tape tape, Child child) {
+      int food = tape.takenNumberBehindWord(0, FOODS - 1);
       int set = 0;
       for (int count = 0; count < FOODS && food >= 0; count++) {
         set |= 1 << food;
-        if (tape.token != Tape.NUMBER) {
+        if (!tape.isAtNumber()) {
           child.friend = set;
           return true;
         }
-        food = number(food + 1, FOODS - 1);
+        food = tape.takenNumber(food + 1, FOODS - 1);
       }
       return false;
     }

@@ -300,6 +300,11 @@ public final class PromiseTest {
     due("no what", x.tasteOf(0, 5), BEYOND);
     due("seen", seen(x), before);
     due("counts", counts(x), "5 0 0 0 0 0 0");
+    x.food(2, 0, 50);
+    x.child(1, 80);
+    due("100000 by 10000", x.tasteOf(0, 3), 10);
+    x.child(1, 79);
+    due("99000 by 10000", x.tasteOf(0, 3), 9);
   }
 
   private static void moves() {
@@ -386,20 +391,23 @@ public final class PromiseTest {
     due("none", x.drop(), NONE);
     x.taste(TASTE, 1, 2);
     x.taste(PAID, 4, 5);
-    x.hold(0, 0);
+    x.hold(0, 1);
     x.hold(3, 1);
+    x.hold(5, 0);
     x.hold(9, 1);
     due("drop", x.drop(), 1);
     due("spots", x.count(5), 1);
+    due("spot", x.as(0, 0), MISSING);
     due("spot", x.as(3, 0), MISSING);
-    due("spot", x.as(0, 0), 0);
+    due("spot", x.as(5, 0), 0);
     due("the dropped", x.tasteOf(1, 0), BEYOND);
     due("a new one", x.taste(LICKED, 9, 1), 1);
     due("spot still", x.as(9, 0), MISSING);
     due("drop", x.drop(), 1);
     due("drop", x.drop(), 0);
+    due("spots", x.count(5), 0);
     due("none", x.drop(), NONE);
-    due("counts", counts(x), "1 0 0 2 0 2 0");
+    due("counts", counts(x), "1 0 0 2 0 3 0");
   }
 
   private static void meals() {
@@ -617,6 +625,16 @@ public final class PromiseTest {
     due("day -1", x.day(-1), BEYOND);
     x.meals(10);
     due("the 10 is gone from the book: 5 and 1", x.spread(), 4);
+
+    PeaSpoons y = new PeaSpoons();
+    y.meals(1);
+    y.taste(HIDDEN, 0, 7);
+    y.meals(1);
+    y.change(0, 0, LICKED);
+    y.meals(1);
+    due("the most in the middle", y.spread(), 7);
+    due("the middle", y.book(1), 7);
+    due("day", y.day(0), 7);
   }
 
   private static void ahead() {
@@ -679,6 +697,11 @@ public final class PromiseTest {
     due("at 350", y.when(9), 350);
     y.food(9, 0, 14);
     due("not at 350", y.when(9), NONE);
+    y.swap(0, 9);
+    y.food(9, 0, 15);
+    due("at 341", y.when(9), 341);
+    y.food(9, 0, 14);
+    due("not at 351", y.when(9), NONE);
     due("seen", y.now(0), 0);
   }
 
@@ -729,6 +752,44 @@ public final class PromiseTest {
     y.food(0, 0, 0);
     due("99", y.times(0), 99);
     due("as when", y.when(0), 99);
+
+    PeaSpoons v = new PeaSpoons();
+    v.taste(HIDDEN, 0, 1);
+    v.food(0, 0, 0);
+    int seed = seedWithTopAt(100);
+    v.seed(seed);
+    v.child(3, hiddenLike(seed, 100));
+    due("100", v.times(0), NONE);
+    due("100 ahead", v.when(0), 100);
+    seed = seedWithTopAt(99);
+    v.seed(seed);
+    v.child(3, hiddenLike(seed, 99));
+    due("99", v.times(0), 99);
+    due("z", v.count(4), seed);
+  }
+
+  /** Like of a food without bitter, 0 at first, behind n hidden servings. */
+  private static int hiddenLike(int seed, int n) {
+    int z = seed;
+    int like = 0;
+    for (int i = 0; i < n; i++) {
+      z = z * 1103515245 + 12345;
+      like = (z >>> 8) % 10 < 1 ? Math.max(0, like - 10) : Math.min(99, like + 1);
+    }
+    return like;
+  }
+
+  private static int seedWithTopAt(int n) {
+    for (int seed = 1; seed < 1000000; seed++) {
+      int top = 0;
+      for (int i = 1; i < n; i++) {
+        top = Math.max(top, hiddenLike(seed, i));
+      }
+      if (hiddenLike(seed, n) > top) {
+        return seed;
+      }
+    }
+    return 0;
   }
 
   private static void kindFor() {
@@ -889,6 +950,37 @@ public final class PromiseTest {
     }
     due("70 of 35", v.worry(), 35);
     due("meal", v.now(0), 0);
+    worryAtTheBound();
+  }
+
+  /** 3 spoons each, till the likes are too low for more than 2. */
+  private static PeaSpoons wearyChild() {
+    PeaSpoons x = new PeaSpoons();
+    for (int i = 0; i < 10; i++) {
+      x.taste(PRESSED, i, 3);
+      x.food(i, 0, 70);
+    }
+    x.child(1, 99);
+    return x;
+  }
+
+  private static void worryAtTheBound() {
+    PeaSpoons x = wearyChild();
+    int first = 0;
+    while (x.now(10) == 0 && first < 250) {
+      x.meals(1);
+      first++;
+    }
+    due("short between 176 and 249", first > 176 && first < 250 ? 1 : 0, 1);
+    PeaSpoons y = wearyChild();
+    for (int left = first - 176; left > 0; left -= 70) {
+      y.meals(Math.min(70, left));
+    }
+    due("176", y.worry(), NONE);
+    y.meals(1);
+    due("175", y.worry(), 175);
+    y.meals(1);
+    due("174", y.worry(), 174);
   }
 
   private static void order() {
@@ -1025,7 +1117,30 @@ public final class PromiseTest {
     due("friend", x.now(7), 16);
     due("again", tell(x, "food 0 like 5;food 0 like 6"), 2);
     due("the later", x.foodOf(0, 0), 6);
+    due("the least", tell(x, "food 9 like 0 bitter 0;pudding 0;friend 9;bent 0"), 4);
+    due("9", x.foodOf(9, 0), 0);
+    due("pudding", x.now(6), 0);
+    due("friend", x.now(7), 512);
     due("no finding", x.status(-1), 0);
+    fullTapes();
+  }
+
+  private static void fullTapes() {
+    String blanks = " ".repeat(120);
+    due("120 blanks", tell(new PeaSpoons(), blanks), -121);
+    due("120 letters", tell(new PeaSpoons(), "a".repeat(120)), -1);
+    due("120 signs", tell(new PeaSpoons(), ";".repeat(120)), -1);
+    due("a word at the end", tell(new PeaSpoons(), blanks.substring(4) + "food"), -121);
+    due("a number at the end", tell(new PeaSpoons(), ("food 7" + blanks).substring(0, 119) + "7"), -120);
+    due("an item that fills it", tell(new PeaSpoons(), "food" + "0".repeat(116)), 1);
+    due("a sign at the end", tell(new PeaSpoons(), "food" + "0".repeat(115) + ";"), -121);
+    StringBuilder items = new StringBuilder("bent1");
+    for (int i = 0; i < 19; i++) {
+      items.append(";bent").append(i % 10);
+    }
+    PeaSpoons x = new PeaSpoons();
+    due("20 items", tell(x, items.toString()), 20);
+    due("the last", x.now(2), 8);
   }
 
   private static void textFaults() {
@@ -1037,7 +1152,8 @@ public final class PromiseTest {
         "friend 1 10", "friend 1;", "friend 1 like", "friend 0 1 2 3 4 5 6 7 8 9 9", "taste", "taste 10",
         "taste 1 put", "taste 1 put 0", "taste 1 put 21", "taste 1 put 2 put 3", "taste 1 like 4",
         "hidden 1 2", "like 4", "put 3", "food 1;;food 2", "food 1,food 2", "food 1\tlike 2", "food 99999999999",
-        "food 1 like 4 ;  ", "food 1 like4294967300", "food 1 @", "tastelicked 1", "food one"};
+        "food 1 like 4 ;  ", "food 1 like4294967300", "food 1 @", "tastelicked 1", "food one",
+        "xood 1", "gent 1", "fooe 1"};
     int[] faults = {0, 3, 0, 4, 5, 5, 5, 11, 12,
         14, 16, 14, 7, 0,
         0, 0, 5, 4, 7, 7, 7, 5, 5,
@@ -1045,7 +1161,8 @@ public final class PromiseTest {
         9, 9, 9, 27, 5, 6,
         11, 12, 12, 14, 8,
         9, 0, 0, 7, 6, 6, 5,
-        17, 11, 7, 0, 5};
+        17, 11, 7, 0, 5,
+        0, 0, 0};
     for (int i = 0; i < texts.length; i++) {
       PeaSpoons x = new PeaSpoons();
       due("text '" + texts[i] + "'", tell(x, texts[i]), -1 - faults[i]);
