@@ -21,6 +21,10 @@ public final class PeaSpoons {
   private static final int KINDS = 7;
   private static final int[] KIND_ABOVE = {-1, TASTE, TASTE, PRESSED, TASTE, COPIED, TASTE};
 
+  private static final int OF_KIND = 0;
+  private static final int OF_FOOD = 1;
+  private static final int OF_PUT = 2;
+
   private static final int BENT = 0;
   private static final int HUNGER = 1;
   private static final int WEIGHT = 2;
@@ -90,10 +94,6 @@ public final class PeaSpoons {
     return within(v, 1, TOP_PUT);
   }
 
-  private static boolean fitsPart(int part, int v) {
-    return v >= partLow(part) && v <= partTop(part);
-  }
-
   private static int partLow(int part) {
     return part == LINE ? 1 : 0;
   }
@@ -105,6 +105,20 @@ public final class PeaSpoons {
       case HUNGER: return TOP_HUNGER;
       case WEIGHT: return TOP_WEIGHT;
       case LINE: return 99;
+      default: return -1;
+    }
+  }
+
+  private static int traitLow(int what) {
+    return what == OF_PUT ? 1 : 0;
+  }
+
+  /** Below every low bound where a taste has no such trait. */
+  private static int traitTop(int what) {
+    switch (what) {
+      case OF_KIND: return KINDS - 1;
+      case OF_FOOD: return FOODS - 1;
+      case OF_PUT: return TOP_PUT;
       default: return -1;
     }
   }
@@ -152,7 +166,7 @@ public final class PeaSpoons {
   }
 
   public int child(int what, int v) {
-    if (!fitsPart(what, v)) {
+    if (!within(v, partLow(what), partTop(what))) {
       return finding(BEYOND);
     }
     int was = child.part(what);
@@ -222,16 +236,10 @@ public final class PeaSpoons {
     if (!isTaste(taste)) {
       return finding(BEYOND);
     }
-    if (what == 0 && isKind(v)) {
-      return replaced(child.plan.kinds, taste, v);
+    if (!within(v, traitLow(what), traitTop(what))) {
+      return finding(BEYOND);
     }
-    if (what == 1 && isFood(v)) {
-      return replaced(child.plan.foods, taste, v);
-    }
-    if (what == 2 && isPut(v)) {
-      return replaced(child.plan.puts, taste, v);
-    }
-    return finding(BEYOND);
+    return replaced(child.plan.row(what), taste, v);
   }
 
   public int swap(int one, int other) {
@@ -372,53 +380,19 @@ public final class PeaSpoons {
   }
 
   public int kindFor(int taste, int n) {
-    if (!isTaste(taste) || !within(n, 1, 175)) {
-      return finding(BEYOND);
-    }
-    if (isPastLast(n)) {
-      return finding(STATE);
-    }
-    int best = -1;
-    int most = -1;
-    for (int kind = 0; kind < KINDS; kind++) {
-      trial.become(child);
-      trial.plan.kinds[taste] = kind;
-      int count = likedBehind(n);
-      if (count > most) {
-        most = count;
-        best = kind;
-      }
-    }
-    return best;
-  }
-
-  private int likedBehind(int n) {
-    trial.goOn(n);
-    return Integer.bitCount(trial.likedSet());
+    return bestFor(taste, n, OF_KIND);
   }
 
   public int foodFor(int taste, int n) {
-    if (!isTaste(taste) || !within(n, 1, 175)) {
-      return finding(BEYOND);
-    }
-    if (isPastLast(n)) {
-      return finding(STATE);
-    }
-    int best = -1;
-    int most = -1;
-    for (int food = 0; food < FOODS; food++) {
-      trial.become(child);
-      trial.plan.foods[taste] = food;
-      int count = likedBehind(n);
-      if (count > most) {
-        most = count;
-        best = food;
-      }
-    }
-    return best;
+    return bestFor(taste, n, OF_FOOD);
   }
 
   public int putFor(int taste, int n) {
+    return bestFor(taste, n, OF_PUT);
+  }
+
+  /** A put is best by spoons eaten, a kind and a food by how many foods are liked. */
+  private int bestFor(int taste, int n, int what) {
     if (!isTaste(taste) || !within(n, 1, 175)) {
       return finding(BEYOND);
     }
@@ -427,13 +401,14 @@ public final class PeaSpoons {
     }
     int best = -1;
     int most = -1;
-    for (int put = 1; put <= TOP_PUT; put++) {
+    for (int v = traitLow(what); v <= traitTop(what); v++) {
       trial.become(child);
-      trial.plan.puts[taste] = put;
+      trial.plan.row(what)[taste] = v;
       int eaten = trial.goOn(n);
-      if (eaten > most) {
-        most = eaten;
-        best = put;
+      int score = what == OF_PUT ? eaten : Integer.bitCount(trial.likedSet());
+      if (score > most) {
+        most = score;
+        best = v;
       }
     }
     return best;
@@ -471,6 +446,11 @@ public final class PeaSpoons {
       }
     }
     return finding(NONE);
+  }
+
+  private int likedBehind(int n) {
+    trial.goOn(n);
+    return Integer.bitCount(trial.likedSet());
   }
 
   public int order(int n) {
@@ -741,6 +721,14 @@ public final class PeaSpoons {
       System.arraycopy(other.foods, 0, foods, 0, TASTES);
       System.arraycopy(other.puts, 0, puts, 0, TASTES);
       size = other.size;
+    }
+
+    int[] row(int what) {
+      switch (what) {
+        case OF_KIND: return kinds;
+        case OF_FOOD: return foods;
+        default: return puts;
+      }
     }
 
     boolean isFull() {

@@ -1013,6 +1013,17 @@ public final class PromiseTest {
     x.food(1, 0, 20);
     due("two meals: 1 and 3", x.order(2), 13);
     due("counts", counts(x), "2 0 0 4 0 0 0");
+    PeaSpoons y = new PeaSpoons();
+    y.taste(LICKED, 0, 1);
+    y.taste(LICKED, 1, 1);
+    y.taste(TASTE, 2, 1);
+    y.food(2, 0, 44);
+    due("0 and 2", y.order(2), 2);
+    y.food(0, 0, 47);
+    due("neighbours: 1 and 2, as 0 must stay", y.order(2), 12);
+    y.food(0, 0, 20);
+    y.food(1, 0, 47);
+    due("neighbours: 0 and 1", y.order(1), 1);
   }
 
   private static void chance() {

@@ -110,17 +110,19 @@ public final class RulesTest {
     }
   }
 
+  /** A method ends at the first line that is its own indent and a brace. */
   private static void methodLengths(String source) {
-    int begin = 0;
     String[] lines = source.split("\n");
     for (int i = 0; i < lines.length; i++) {
-      if (lines[i].matches(" {2,4}[\\w ,<>\\[\\]]+\\([^;]*\\{")) {
-        begin = i;
-      }
-      if (lines[i].matches(" {2,4}\\}")) {
-        due(i - begin < 60 || lines[i].startsWith("  }") && lines[begin].startsWith("    "), "line " + i + ": a long method");
-      }
       due(lines[i].length() <= 110, "line " + (i + 1) + " is long");
+      Matcher head = Pattern.compile("( {2}| {4})[a-zA-Z][^;=]*\\(.*\\) \\{").matcher(lines[i]);
+      if (head.matches()) {
+        int end = i + 1;
+        while (end < lines.length && !lines[end].equals(head.group(1) + "}")) {
+          end++;
+        }
+        due(end - i < 60, "line " + (i + 1) + " begins a long method");
+      }
     }
   }
 }
