@@ -3,6 +3,7 @@ import java.lang.reflect.Field;
 import java.lang.reflect.Method;
 import java.lang.reflect.Modifier;
 import java.nio.charset.StandardCharsets;
+import java.nio.file.DirectoryStream;
 import java.nio.file.Files;
 import java.nio.file.Path;
 import java.util.Arrays;
@@ -23,6 +24,7 @@ public final class RulesTest {
     hiddenMembers();
     words(source);
     methodLengths(source);
+    promisesHaveEdges(root);
     System.out.println(wrong == 0 ? "RulesTest: all as due" : "RulesTest: " + wrong + " wrong");
     if (wrong != 0) {
       System.exit(1);
@@ -107,6 +109,22 @@ public final class RulesTest {
     }
     for (int i = 0; i < source.length(); i++) {
       due(source.charAt(i) < 127, "another sign at " + i);
+    }
+  }
+
+  /** Each promise's bounds have a test that bears its number. */
+  private static void promisesHaveEdges(Path root) throws Exception {
+    Set<String> tested = new TreeSet<>();
+    try (DirectoryStream<Path> tests = Files.newDirectoryStream(root.resolve("src/test/java"), "*EdgeTest.java")) {
+      for (Path test : tests) {
+        Matcher m = Pattern.compile("  static void promise(\\d\\d)[A-Z]").matcher(read(test));
+        while (m.find()) {
+          tested.add(m.group(1));
+        }
+      }
+    }
+    for (int promise = 1; promise <= 44; promise++) {
+      due(tested.contains(String.format("%02d", promise)), "no edge test of promise " + promise);
     }
   }
 
